@@ -11,6 +11,7 @@ public final class HeapsTest {
         fewMinutes();
         warmth();
         chanceByKind();
+        chanceByOthers();
         chanceHeld();
         watching();
         betweenErrors();
@@ -213,6 +214,28 @@ public final class HeapsTest {
         due.is("BROUGHT, nobody in it, RULE 20", x.between(0, 1, 1), 30);
         x.set(0, 0, 5);
         due.is("BENCHED, nobody in it", x.between(0, 1, 1), 40);
+    }
+
+    /** Each one in the HEAP may be the one who counts. */
+    private static void chanceByOthers() {
+        for (int dear = 0; dear < 4; dear++) {
+            if (dear == 2) {
+                continue;
+            }
+            BreakTime x = Due.children(5, 300);
+            x.heap(1, 9);
+            x.rule(0, 50);
+            x.join(dear, 0);
+            x.likes(dear, 2, 61);
+            x.likes(4, 2, 99);
+            due.is("BROUGHT by " + dear, x.between(2, 0, 1), 91);
+            x.likes(2, dear, 99);
+            x.likes(2, 4, 99);
+            x.set(2, 0, 5);
+            due.is("BENCHED likes " + dear, x.between(2, 0, 1), 61);
+            x.likes(2, dear, 0);
+            due.is("BENCHED likes another by the wall", x.between(2, 0, 1), 71);
+        }
     }
 
     private static void chanceHeld() {

@@ -13,6 +13,7 @@ public final class MinutesTest {
         fallingApart();
         sorrowOfThoseWhoMind();
         minutesErrors();
+        greatest();
         termWithout();
         termWith();
         termsErrors();
@@ -146,6 +147,21 @@ public final class MinutesTest {
             due.holds("MINUTES so far far below 99999", x.minutes(60) >= 0);
         }
         due.is("MINUTES", x.count(2), 27000);
+    }
+
+    /** Beyond what 512 calls can reach, as it is built all the same. */
+    private static void greatest() {
+        BreakTime x = Due.children(2, 0);
+        for (int i = 0; i < 1666; i++) {
+            x.minutes(60);
+        }
+        due.is("minutes(40) above 99999", x.minutes(40), Due.STATE);
+        due.is("minutes(61): BEYOND first", x.minutes(61), Due.BEYOND);
+        due.is("minutes(39)", x.minutes(39), 2 * 99999);
+        due.is("minutes(1) above 99999", x.minutes(1), Due.STATE);
+        due.is("ALONE held", x.then(60, 1, 5), 99999);
+        due.is("SORROW held", x.sorrow(60), 2 * 99999);
+        due.is("MINUTES", x.count(2), 99999);
     }
 
     private static void termWithout() {

@@ -217,6 +217,11 @@ public final class SheetsTest {
         due.is("nobody moves", x.count(4), 7);
         x.sheet(0, 8, 2);
         due.is("one without a number", x.film(0, 1), 2);
+        x.sheet(2, 32, 0);
+        due.is("all without a number", x.film(2, 1), 0);
+        x.sheet(2, 32, 24);
+        x.put(2, 2, 1);
+        due.is("more numbers than CHILDREN", x.film(2, 1), 3);
         x.sheet(1, 16, 9);
         due.is("of nobody", filmOfNobody(), 0);
         String ahead = Due.state(x);

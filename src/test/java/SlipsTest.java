@@ -90,6 +90,12 @@ public final class SlipsTest {
         due.is("LEFT OUT, but for one who doesn't MIND", x.net(3), 33);
         x.likes(3, 5, 1);
         due.is("LEFT OUT, but for one named", x.net(3), 1);
+        x = Due.children(3, 0);
+        x.likes(0, 1, 1);
+        due.is("LEFT OUT, but for one named by 0", x.net(3), 5);
+        x.likes(1, 0, 1);
+        x.likes(2, 0, 1);
+        due.is("0 is the greatest NAMED", x.net(2), 2);
     }
 
     private static void classes() {
@@ -126,6 +132,12 @@ public final class SlipsTest {
         Due.friends(x, 1, 2, 5);
         Due.friends(x, 2, 3, 5);
         due.is("the second with more", x.classes(0), 14);
+        x = Due.children(4, 0);
+        x.set(0, 3, 0);
+        Due.friends(x, 1, 2, 5);
+        Due.friends(x, 2, 3, 5);
+        due.is("the first with no fewer than the half", x.classes(0), 6);
+        due.is("the first with one who has nobody", x.classes(1), 1);
     }
 
     private static int lonely(BreakTime x, int n, int set) {

@@ -133,6 +133,12 @@ public final class TextsTest {
         x.likes(0, 1, 20);
         letsIn(x, 1, "w", 20);
         letsIn(x, 1, "w*2", 30);
+        x.set(1, 0, 6);
+        x.heap(3, 5);
+        x.join(0, 1);
+        x.join(2, 1);
+        Due.text(x, 0, "0-1");
+        due.is("NUMBERED is 100 ahead of LETS IN", x.between(1, 1, 1), 99);
     }
 
     private static void moves(String text, int want) {
@@ -161,6 +167,15 @@ public final class TextsTest {
         moves("0-5", 0);
         moves("9999", 99);
         moves("l*100+o", 99);
+        BreakTime x = Due.children(3, 0);
+        x.likes(1, 0, 50);
+        x.likes(2, 0, 99);
+        Due.text(x, 1, "f*20+3");
+        x.terms(1);
+        due.is("both like 0", x.likes(1, 2, 0), 23);
+        due.is("0 and 1 like nobody both", x.likes(1, 0, 0), 3);
+        due.is("nobody likes oneself", x.childIs(2, 6), 3);
+        due.is("nobody names oneself", x.childIs(0, 6), 6);
     }
 
     private static void fault(int use, String text, int place) {
@@ -232,6 +247,10 @@ public final class TextsTest {
         Due.text(x, 0, "8");
         due.is("in place of it", x.between(0, 0, 1), 8);
         due.same("ERRORS", Due.errors(x), "7 0 0 0 0 0 ");
+        for (int i = 0; i < 20; i++) {
+            Due.text(x, 0, "1+1+1+1+1+1+1+1+1+1+1+1+1+1+1+1+1+1+1+1+1+1+1+1+1+1+1+1+1*" + i);
+            due.is("a long one in place of a long one", x.between(0, 0, 1), 28 + i);
+        }
     }
 
     private static void untell() {

@@ -49,6 +49,9 @@ public final class ToldTest {
         due.is("one twice", check(x, 0, 2, 2, 5, 7), 2);
         due.is("far", check(x, 1, Integer.MIN_VALUE), 1);
         due.is("another HEAP", check(x, 1, 9), 0);
+        x.join(0, 1);
+        due.is("child 0 is in it, too", check(x, 1, 0, 9), 0);
+        due.is("child 0 lacks", check(x, 1, 9), 1);
         due.is("check(2)", check(x, 2, 1, 2), Due.BEYOND);
         for (int v : Due.FAR) {
             due.is("check(far)", check(x, v, 1, 2), Due.BEYOND);

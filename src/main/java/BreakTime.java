@@ -1129,12 +1129,9 @@ public final class BreakTime {
             int top = -1;
             for (int i = 0; i < size; i++) {
                 int step = steps[i];
-                if (step < NAME) {
+                if (step < SIGN) {
                     top++;
-                    laid[top] = step;
-                } else if (step < SIGN) {
-                    top++;
-                    laid[top] = names[step - NAME];
+                    laid[top] = step < NAME ? step : named(names, step - NAME);
                 } else if (step == SIGN + '!') {
                     if (top >= 0) {
                         laid[top] = laid[top] == 0 ? 1 : 0;
@@ -1145,6 +1142,10 @@ public final class BreakTime {
                 }
             }
             return top >= 0 ? laid[top] : 0;
+        }
+
+        static int named(int[] names, int i) {
+            return i >= 0 && i < names.length ? names[i] : 0;
         }
 
         static int apply(int sign, int a, int b) {

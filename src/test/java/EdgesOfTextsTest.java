@@ -86,6 +86,9 @@ public final class EdgesOfTextsTest {
         p.by(() -> fed(0)).shows("an empty TAPE, USE 1", -10, x -> x.text(1));
         p.by(() -> Edge.one(0)).taken("60 bytes", 1, x -> Due.text(x, 0, sum(29) + "+1"), "30", 30,
                 x -> x.between(0, 0, 1));
+        p.by(() -> Edge.one(0)).taken("60 bytes, each of them a sign of its own", 1,
+                x -> Due.text(x, 0, "!0" + "+1".repeat(29)), "30", 30,
+                x -> x.between(0, 0, 1));
         p.by(() -> Edge.one(0)).taken("a TEXT in place of one ahead", 1, x -> Due.text(x, 0, "7") * Due.text(x, 0, "8"),
                 "the latter", 8, x -> x.between(0, 0, 1));
         p.by(() -> Edge.one(0)).taken("of another USE", 1, x -> Due.text(x, 0, "7") * Due.text(x, 1, "8"),

@@ -2,8 +2,8 @@ import java.util.ArrayList;
 import java.util.List;
 
 /**
- * The document once more, written apart from the class, slow and plain: what ManyRunsTest holds
- * against it. Nothing here is shared with BreakTime, and every look AHEAD copies the whole yard.
+ * The document once more, in another form, slow and plain: what ManyRunsTest holds against the
+ * class. No code is shared with BreakTime, and every look AHEAD copies the whole yard.
  */
 public final class Plain {
     private static final int[] PARENT = {-1, 0, 0, 0, 1, 2, 0};
